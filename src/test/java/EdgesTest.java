@@ -102,6 +102,9 @@ public final class EdgesTest {
         CHECK.outOfBounds(x, "no latest edge after a skip", () -> x.interval(0));
         come(x, 4, 3);
         CHECK.due("interval(0)", x.interval(0), 4);
+        come(x, 5, 6);
+        come(x, 5, 2);
+        CHECK.outOfBounds(x, "nor a backward one", () -> x.interval(0));
     }
 
     private static void illegalCodesEmptyTheList() {

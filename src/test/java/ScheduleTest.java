@@ -10,12 +10,14 @@ public final class ScheduleTest {
         spinIsFull();
         spinFromRawCode();
         spinFromLatestCode();
+        spinBehindASingleCode();
         spinFromIllegalCode();
         spinBackwardThroughAllSectors();
         runRange();
         sensorsRange();
         filterCounts();
         glitchBeginsAnew();
+        glitchFromAnIllegalCode();
         CHECK.end();
     }
 
@@ -124,6 +126,16 @@ public final class ScheduleTest {
         CHECK.due("raw at 16", x.sensors(0), 1);
     }
 
+    private static void spinBehindASingleCode() {
+        HallCommutator x = new HallCommutator();
+        x.schedule(10, 6);
+        x.spin(1, 3, 1);
+        x.run(12);
+        CHECK.due("raw at 12", x.sensors(0), 6);
+        x.run(1);
+        CHECK.due("raw at 13", x.sensors(0), 4);
+    }
+
     private static void spinFromIllegalCode() {
         HallCommutator x = new HallCommutator();
         x.schedule(5, 7);
@@ -208,5 +220,16 @@ public final class ScheduleTest {
             CHECK.due("filter count at " + (i + 1), x.sensors(3), counts[i]);
             CHECK.due("filtered code at " + (i + 1), x.sensors(1), i < 9 ? 1 : 3);
         }
+    }
+
+    private static void glitchFromAnIllegalCode() {
+        HallCommutator x = new HallCommutator();
+        x.schedule(1, 7);
+        x.schedule(5, 3);
+        x.schedule(7, 7);
+        x.run(9);
+        CHECK.due("sensors(1)", x.sensors(1), 7);
+        CHECK.due("sensors(2)", x.sensors(2), HallCommutator.NONE);
+        CHECK.due("the illegal code is counted once", x.counts(0), 1);
     }
 }

@@ -11,6 +11,7 @@ public final class UndoTest {
         valuesSaveNothing();
         everythingComesBack();
         undoThenOnAnotherWay();
+        legsAndIntervalsComeBack();
         CHECK.end();
     }
 
@@ -187,5 +188,26 @@ public final class UndoTest {
         x.undo();
         CHECK.due("undo()", x.undo(), 0);
         CHECK.due("tick of the oldest", x.run(0), 3);
+    }
+
+    private static void legsAndIntervalsComeBack() {
+        HallCommutator x = new HallCommutator();
+        x.setFilter(1);
+        x.setPulse(4, 100);
+        x.setMode(1);
+        x.spin(1, 5, 3);
+        x.run(15);
+        CHECK.legs(x, "of sector 3", -1, 1, 0);
+        CHECK.due("interval(1)", x.interval(1), 5);
+        x.spin(-1, 7, 5);
+        x.setMode(3);
+        x.run(35);
+        CHECK.legs(x, "braking", -1, -1, -1);
+        CHECK.due("interval(1)", x.interval(1), 7);
+        CHECK.due("undo()", x.undo(), 3);
+        CHECK.legs(x, "of sector 3 again", -1, 1, 0);
+        CHECK.due("interval(0) again", x.interval(0), 5);
+        CHECK.due("interval(1) again", x.interval(1), 5);
+        CHECK.due("speed() again", x.speed(), 1000000.0 / 30.0);
     }
 }
