@@ -153,11 +153,23 @@ public final class BoundaryRefusalTest {
         for (int v : new int[] {-1, 6, LEAST, MOST}) {
             refused(scene, "interval(" + v + ")", INDEX, x -> x.interval(v));
         }
-        boolean turns = scene == Motors.Scene.BUSY || scene == Motors.Scene.FAULTY;
-        int size = turns ? 1 : 0;
+        int size = intervalsOf(scene);
         refused(scene, "interval(" + size + ")", INDEX, x -> x.interval(size));
-        if (turns) {
-            CHECK.due(scene + " interval(0)", scene.make().interval(0), 6);
+        if (size > 0) {
+            CHECK.due(scene + " interval(" + (size - 1) + ") is there",
+                Check.outcome(() -> scene.make().interval(size - 1)) instanceof Integer, true);
+        }
+    }
+
+    private static int intervalsOf(Motors.Scene scene) {
+        switch (scene) {
+            case BUSY:
+            case FAULTY:
+                return 1;
+            case UNDONE:
+                return 2;
+            default:
+                return 0;
         }
     }
 
@@ -209,5 +221,6 @@ public final class BoundaryRefusalTest {
     /** "Throws IllegalStateException if there is no saved state". */
     private static void nothingToUndo() {
         refused(Motors.Scene.NEW, "undo()", STATE, x -> x.undo());
+        refused(Motors.Scene.UNDONE, "undo()", STATE, x -> x.undo());
     }
 }

@@ -25,6 +25,13 @@ public final class BoundarySensorsTest {
         return x.sensors(0) + " " + x.sensors(1) + " " + x.sensors(2) + " " + x.sensors(3);
     }
 
+    private static void tickByTick(HallCommutator x, String... due) {
+        for (int i = 0; i < due.length; i++) {
+            x.run(1);
+            CHECK.due("sensors at " + (i + 1), sensors(x), due[i]);
+        }
+    }
+
     /** "All events happen at the ticks that pass during run()." */
     private static void eventsOnlyDuringRun() {
         HallCommutator x = new HallCommutator();
@@ -122,11 +129,8 @@ public final class BoundarySensorsTest {
         HallCommutator x = new HallCommutator();
         x.schedule(1, 0);
         x.schedule(4, 6);
-        String[] due = {"0 1 0 1", "0 1 0 2", "0 0 -1 0", "6 0 -1 1", "6 0 -1 2", "6 6 3 0"};
-        for (int i = 0; i < due.length; i++) {
-            x.run(1);
-            CHECK.due("sensors at " + (i + 1), sensors(x), due[i]);
-        }
+        tickByTick(x, "0 1 0 1", "0 1 0 2", "0 0 -1 0", "6 0 -1 1", "6 0 -1 2", "6 6 3 0");
+        CHECK.due("counts", Motors.countsOf(x), "1 0 0 0");
     }
 
     /** "If the filter count is F then [..] the raw code is accepted", F from 1 to 50. */
@@ -164,11 +168,7 @@ public final class BoundarySensorsTest {
         x.schedule(1, 3);
         x.schedule(3, 7);
         x.schedule(5, 2);
-        String[] due = {"3 1 0 1", "3 1 0 2", "7 1 0 1", "7 1 0 2", "2 1 0 1", "2 1 0 2", "2 2 2 0"};
-        for (int i = 0; i < due.length; i++) {
-            x.run(1);
-            CHECK.due("sensors at " + (i + 1), sensors(x), due[i]);
-        }
+        tickByTick(x, "3 1 0 1", "3 1 0 2", "7 1 0 1", "7 1 0 2", "2 1 0 1", "2 1 0 2", "2 2 2 0");
     }
 
     /** "If the raw code equals the filtered code, the filter count becomes 0." */
@@ -177,11 +177,7 @@ public final class BoundarySensorsTest {
         x.schedule(1, 3);
         x.schedule(3, 1);
         x.schedule(4, 3);
-        String[] due = {"3 1 0 1", "3 1 0 2", "1 1 0 0", "3 1 0 1", "3 1 0 2", "3 3 1 0", "3 3 1 0"};
-        for (int i = 0; i < due.length; i++) {
-            x.run(1);
-            CHECK.due("sensors at " + (i + 1), sensors(x), due[i]);
-        }
+        tickByTick(x, "3 1 0 1", "3 1 0 2", "1 1 0 0", "3 1 0 1", "3 1 0 2", "3 3 1 0", "3 3 1 0");
     }
 
     /** A candidate code that another one replaced is not remembered. */
@@ -190,11 +186,7 @@ public final class BoundarySensorsTest {
         x.schedule(1, 3);
         x.schedule(3, 2);
         x.schedule(4, 3);
-        String[] due = {"3 1 0 1", "3 1 0 2", "2 1 0 1", "3 1 0 1", "3 1 0 2", "3 3 1 0"};
-        for (int i = 0; i < due.length; i++) {
-            x.run(1);
-            CHECK.due("sensors at " + (i + 1), sensors(x), due[i]);
-        }
+        tickByTick(x, "3 1 0 1", "3 1 0 2", "2 1 0 1", "3 1 0 1", "3 1 0 2", "3 3 1 0");
     }
 
     /** "(or more, after F was changed)": a count of 10, then every F. */

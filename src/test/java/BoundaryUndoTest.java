@@ -259,9 +259,9 @@ public final class BoundaryUndoTest {
         Motors.come(x, 1, 2);
         x.undo();
         x.undo();
-        CHECK.due("filter count", x.sensors(0) + " " + x.sensors(3), "3 2");
+        CHECK.due("sensors", x.sensors(0) + " " + x.sensors(1) + " " + x.sensors(2) + " " + x.sensors(3), "3 1 0 2");
         x.run(1);
-        CHECK.due("the old candidate is accepted", x.sensors(1), 3);
+        CHECK.due("the old candidate is accepted", x.sensors(1) + " position " + x.position(), "3 position 1");
     }
 
     private static void latestEdgeComesBack() {

@@ -15,18 +15,6 @@ public final class EdgesTest {
         CHECK.end();
     }
 
-    /** An object that accepts a code at the tick at which it comes. */
-    private static HallCommutator quick() {
-        HallCommutator x = new HallCommutator();
-        x.setFilter(1);
-        return x;
-    }
-
-    private static void come(HallCommutator x, int delay, int code) {
-        x.schedule(delay, code);
-        x.run(delay);
-    }
-
     private static void counts(HallCommutator x, String when, int illegal, int skips, int edges, int faults) {
         String got = x.counts(0) + " " + x.counts(1) + " " + x.counts(2) + " " + x.counts(3);
         CHECK.due("counts " + when, got, illegal + " " + skips + " " + edges + " " + faults);
@@ -41,7 +29,7 @@ public final class EdgesTest {
     }
 
     private static void positionBothWays() {
-        HallCommutator x = quick();
+        HallCommutator x = Motors.quick(0);
         x.spin(1, 2, 8);
         x.spin(-1, 2, 13);
         x.run(16);
@@ -53,11 +41,11 @@ public final class EdgesTest {
     }
 
     private static void intervalsKeepTheLatestSix() {
-        HallCommutator x = quick();
+        HallCommutator x = Motors.quick(0);
         int[] codes = {3, 2, 6, 4, 5, 1, 3, 2, 6};
         for (int i = 0; i < codes.length; i++) {
             CHECK.outOfBounds(x, "interval behind the end", () -> x.interval(6));
-            come(x, 10 + i, codes[i]);
+            Motors.come(x, 10 + i, codes[i]);
             int have = Math.min(i, 6);
             CHECK.outOfBounds(x, "interval(" + have + ") after edge " + i, () -> x.interval(have));
             if (have > 0) {
@@ -75,14 +63,14 @@ public final class EdgesTest {
     }
 
     private static void turningBackEmptiesTheList() {
-        HallCommutator x = quick();
-        come(x, 5, 3);
-        come(x, 5, 2);
+        HallCommutator x = Motors.quick(0);
+        Motors.come(x, 5, 3);
+        Motors.come(x, 5, 2);
         CHECK.due("interval(0)", x.interval(0), 5);
-        come(x, 7, 3);
+        Motors.come(x, 7, 3);
         CHECK.outOfBounds(x, "interval(0) after turning", () -> x.interval(0));
         CHECK.due("speed() after turning", x.speed(), 0.0);
-        come(x, 9, 1);
+        Motors.come(x, 9, 1);
         CHECK.due("interval(0) backward", x.interval(0), 9);
         CHECK.due("speed() backward", x.speed(), -1000000.0 / 54.0);
         CHECK.due("position()", x.position(), 0);
@@ -90,48 +78,48 @@ public final class EdgesTest {
     }
 
     private static void skipsEmptyTheList() {
-        HallCommutator x = quick();
-        come(x, 5, 3);
-        come(x, 5, 2);
-        come(x, 5, 5);
+        HallCommutator x = Motors.quick(0);
+        Motors.come(x, 5, 3);
+        Motors.come(x, 5, 2);
+        Motors.come(x, 5, 5);
         CHECK.outOfBounds(x, "interval(0) after a skip", () -> x.interval(0));
         CHECK.due("the sector after a skip", x.sensors(2), 5);
         CHECK.due("position() after a skip", x.position(), 2);
         counts(x, "after a skip", 0, 1, 2, 0);
-        come(x, 5, 1);
+        Motors.come(x, 5, 1);
         CHECK.outOfBounds(x, "no latest edge after a skip", () -> x.interval(0));
-        come(x, 4, 3);
+        Motors.come(x, 4, 3);
         CHECK.due("interval(0)", x.interval(0), 4);
-        come(x, 5, 6);
-        come(x, 5, 2);
+        Motors.come(x, 5, 6);
+        Motors.come(x, 5, 2);
         CHECK.outOfBounds(x, "nor a backward one", () -> x.interval(0));
     }
 
     private static void illegalCodesEmptyTheList() {
-        HallCommutator x = quick();
-        come(x, 5, 3);
-        come(x, 5, 2);
-        come(x, 5, 7);
+        HallCommutator x = Motors.quick(0);
+        Motors.come(x, 5, 3);
+        Motors.come(x, 5, 2);
+        Motors.come(x, 5, 7);
         CHECK.outOfBounds(x, "interval(0) after an illegal code", () -> x.interval(0));
         CHECK.due("speed()", x.speed(), 0.0);
-        come(x, 5, 2);
-        come(x, 5, 6);
+        Motors.come(x, 5, 2);
+        Motors.come(x, 5, 6);
         CHECK.outOfBounds(x, "no latest edge after an illegal code", () -> x.interval(0));
         counts(x, "after an illegal code", 1, 0, 3, 0);
     }
 
     private static void sectorAfterAnIllegalCodeIsNoEdge() {
-        HallCommutator x = quick();
+        HallCommutator x = Motors.quick(0);
         int[] codes = {3, 6, 5};
         for (int code : codes) {
-            come(x, 1, 0);
-            come(x, 1, code);
+            Motors.come(x, 1, 0);
+            Motors.come(x, 1, code);
         }
         CHECK.due("position()", x.position(), 0);
         CHECK.due("sensors(2)", x.sensors(2), 5);
         counts(x, "after three illegal codes", 3, 0, 0, 0);
-        come(x, 1, 7);
-        come(x, 1, 0);
+        Motors.come(x, 1, 7);
+        Motors.come(x, 1, 0);
         counts(x, "after five illegal codes", 5, 0, 0, 0);
     }
 
@@ -141,10 +129,10 @@ public final class EdgesTest {
         int[] skipped = {0, 0, 1, 1, 1, 0};
         for (int r = 0; r < 6; r++) {
             for (int d = 0; d < 6; d++) {
-                HallCommutator x = quick();
-                come(x, 1, 0);
-                come(x, 1, codes[r]);
-                come(x, 1, codes[(r + d) % 6]);
+                HallCommutator x = Motors.quick(0);
+                Motors.come(x, 1, 0);
+                Motors.come(x, 1, codes[r]);
+                Motors.come(x, 1, codes[(r + d) % 6]);
                 String step = "from sector " + r + " by " + d;
                 CHECK.due("position() " + step, x.position(), turned[d]);
                 CHECK.due("sensors(2) " + step, x.sensors(2), (r + d) % 6);
@@ -154,20 +142,20 @@ public final class EdgesTest {
     }
 
     private static void speedOfUnevenIntervals() {
-        HallCommutator x = quick();
-        come(x, 1, 5);
-        come(x, 3, 4);
-        come(x, 4, 6);
+        HallCommutator x = Motors.quick(0);
+        Motors.come(x, 1, 5);
+        Motors.come(x, 3, 4);
+        Motors.come(x, 4, 6);
         CHECK.due("speed()", x.speed(), -1 * (1000000.0 * 2.0) / (6.0 * 7.0));
-        come(x, 1, 2);
+        Motors.come(x, 1, 2);
         CHECK.due("speed()", x.speed(), -62500.0);
-        HallCommutator y = quick();
+        HallCommutator y = Motors.quick(0);
         y.setPulse(10, 0);
-        come(y, 1, 3);
+        Motors.come(y, 1, 3);
         for (int i = 0; i < 20; i++) {
             y.run(5000);
         }
-        come(y, 1, 2);
+        Motors.come(y, 1, 2);
         CHECK.due("a long interval", y.interval(0), 100001);
         CHECK.due("speed()", y.speed(), 1000000.0 / 600006.0);
     }

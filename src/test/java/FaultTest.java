@@ -22,18 +22,6 @@ public final class FaultTest {
         CHECK.end();
     }
 
-    private static HallCommutator quick(int mode) {
-        HallCommutator x = new HallCommutator();
-        x.setFilter(1);
-        x.setMode(mode);
-        return x;
-    }
-
-    private static void come(HallCommutator x, int delay, int code) {
-        x.schedule(delay, code);
-        x.run(delay);
-    }
-
     private static void fault(HallCommutator x, String when, int number, int tick, int detail) {
         String got = x.fault(0) + " " + x.fault(1) + " " + x.fault(2);
         CHECK.due("fault " + when, got, number + " " + tick + " " + detail);
@@ -50,8 +38,8 @@ public final class FaultTest {
     private static void sensors() {
         for (int code : new int[] {0, 7}) {
             for (int mode : new int[] {1, 2}) {
-                HallCommutator x = quick(mode);
-                come(x, 5, code);
+                HallCommutator x = Motors.quick(mode);
+                Motors.come(x, 5, code);
                 x.run(18);
                 fault(x, "after 19 illegal ticks", 0, 0, 0);
                 x.run(1);
@@ -63,13 +51,13 @@ public final class FaultTest {
     }
 
     private static void illegalTimeBeginsAnew() {
-        HallCommutator x = quick(1);
-        come(x, 1, 7);
+        HallCommutator x = Motors.quick(1);
+        Motors.come(x, 1, 7);
         x.run(18);
-        come(x, 1, 1);
-        come(x, 1, 0);
+        Motors.come(x, 1, 1);
+        Motors.come(x, 1, 0);
         x.run(10);
-        come(x, 1, 7);
+        Motors.come(x, 1, 7);
         x.run(7);
         fault(x, "after 19 ticks of two illegal codes", 0, 0, 0);
         x.run(1);
@@ -78,8 +66,8 @@ public final class FaultTest {
 
     private static void illegalTimeOnlyWhileDriving() {
         for (int mode : new int[] {0, 3, 4}) {
-            HallCommutator x = quick(mode);
-            come(x, 1, 7);
+            HallCommutator x = Motors.quick(mode);
+            Motors.come(x, 1, 7);
             x.run(600);
             fault(x, "in mode " + mode, 0, 0, 0);
             CHECK.due("mode()", x.mode(), mode);
@@ -92,7 +80,7 @@ public final class FaultTest {
     }
 
     private static void reversalForward() {
-        HallCommutator x = quick(1);
+        HallCommutator x = Motors.quick(1);
         x.spin(-1, 4, 3);
         x.run(11);
         fault(x, "after 2 wrong edges", 0, 0, 0);
@@ -106,7 +94,7 @@ public final class FaultTest {
     }
 
     private static void reversalReverse() {
-        HallCommutator x = quick(2);
+        HallCommutator x = Motors.quick(2);
         x.spin(-1, 4, 5);
         x.spin(1, 4, 3);
         x.run(31);
@@ -116,26 +104,26 @@ public final class FaultTest {
     }
 
     private static void rightEdgeClearsWrongOnes() {
-        HallCommutator x = quick(1);
+        HallCommutator x = Motors.quick(1);
         x.spin(-1, 1, 2);
         x.spin(1, 1, 1);
         x.spin(-1, 1, 2);
         x.run(5);
         fault(x, "after 2, a right one, 2", 0, 0, 0);
-        come(x, 1, 2);
+        Motors.come(x, 1, 2);
         fault(x, "and one more", 2, 6, 2);
     }
 
     private static void wrongEdgesOnlyWhileDriving() {
         for (int mode : new int[] {0, 3, 4}) {
-            HallCommutator x = quick(mode);
+            HallCommutator x = Motors.quick(mode);
             x.spin(-1, 1, 12);
             x.spin(1, 1, 12);
             x.run(24);
             fault(x, "in mode " + mode, 0, 0, 0);
             CHECK.due("counts(2)", x.counts(2), 24);
         }
-        HallCommutator x = quick(1);
+        HallCommutator x = Motors.quick(1);
         x.spin(-1, 1, 2);
         x.run(2);
         x.setMode(0);
@@ -146,21 +134,21 @@ public final class FaultTest {
     }
 
     private static void skipKeepsWrongEdges() {
-        HallCommutator x = quick(1);
+        HallCommutator x = Motors.quick(1);
         x.spin(-1, 1, 2);
         x.run(2);
-        come(x, 1, 3);
-        come(x, 1, 7);
-        come(x, 1, 3);
+        Motors.come(x, 1, 3);
+        Motors.come(x, 1, 7);
+        Motors.come(x, 1, 3);
         fault(x, "a skip and an illegal code are no edges", 0, 0, 0);
-        come(x, 1, 1);
+        Motors.come(x, 1, 1);
         fault(x, "the third wrong edge", 2, 6, 0);
     }
 
     private static void stallBoundary() {
         for (int mode : new int[] {1, 2}) {
-            HallCommutator x = quick(mode);
-            come(x, 1, 5);
+            HallCommutator x = Motors.quick(mode);
+            Motors.come(x, 1, 5);
             x.run(499);
             fault(x, "499 ticks after an edge", 0, 0, 0);
             x.run(1);
@@ -170,14 +158,14 @@ public final class FaultTest {
     }
 
     private static void edgeClearsIdleTime() {
-        HallCommutator x = quick(1);
+        HallCommutator x = Motors.quick(1);
         x.setStall(10);
         x.spin(1, 10, 5);
         x.run(59);
         fault(x, "with an edge at every tenth tick", 0, 0, 0);
         x.run(1);
         fault(x, "ten ticks after the last", 3, 60, 5);
-        HallCommutator y = quick(1);
+        HallCommutator y = Motors.quick(1);
         y.setStall(10);
         y.schedule(5, 2);
         y.run(10);
@@ -185,7 +173,7 @@ public final class FaultTest {
     }
 
     private static void noStallWithoutDuty() {
-        HallCommutator x = quick(1);
+        HallCommutator x = Motors.quick(1);
         x.setStall(10);
         x.run(9);
         x.setPulse(10, 0);
@@ -199,20 +187,20 @@ public final class FaultTest {
     }
 
     private static void illegalCodeHoldsIdleTime() {
-        HallCommutator x = quick(1);
+        HallCommutator x = Motors.quick(1);
         x.setStall(10);
         x.run(5);
-        come(x, 1, 7);
+        Motors.come(x, 1, 7);
         x.run(14);
-        come(x, 1, 1);
+        Motors.come(x, 1, 1);
         x.run(3);
         fault(x, "9 idle ticks, 15 illegal ones", 0, 0, 0);
         x.run(1);
         fault(x, "10 idle ticks", 3, 25, 0);
-        HallCommutator y = quick(1);
+        HallCommutator y = Motors.quick(1);
         y.setStall(10);
         y.run(9);
-        come(y, 1, 7);
+        Motors.come(y, 1, 7);
         y.run(18);
         fault(y, "idle time 9 while illegal", 0, 0, 0);
         y.run(1);
@@ -221,7 +209,7 @@ public final class FaultTest {
 
     private static void stallOnlyWhileDriving() {
         for (int mode : new int[] {0, 3, 4}) {
-            HallCommutator x = quick(mode);
+            HallCommutator x = Motors.quick(mode);
             x.setStall(10);
             x.run(100);
             fault(x, "in mode " + mode, 0, 0, 0);
@@ -232,7 +220,7 @@ public final class FaultTest {
     }
 
     private static void reversalBeforeStall() {
-        HallCommutator x = quick(1);
+        HallCommutator x = Motors.quick(1);
         x.spin(-1, 20, 3);
         x.run(59);
         x.setStall(10);
@@ -246,7 +234,7 @@ public final class FaultTest {
     }
 
     private static void faultEndsDriving() {
-        HallCommutator x = quick(1);
+        HallCommutator x = Motors.quick(1);
         x.setStall(10);
         x.setPulse(10, 100);
         x.run(9);

@@ -42,12 +42,14 @@ final class Motors {
 
     /** The states in which every refused call is tried. */
     enum Scene {
-        NEW, BUSY, FAULTY, FULL, BLIND, BLIND_AHEAD;
+        NEW, BUSY, UNDONE, FAULTY, FULL, BLIND, BLIND_AHEAD;
 
         HallCommutator make() {
             switch (this) {
                 case BUSY:
                     return busy();
+                case UNDONE:
+                    return undone();
                 case FAULTY:
                     return faulty();
                 case FULL:
@@ -74,11 +76,20 @@ final class Motors {
         x.schedule(60, 3);
         x.schedule(60, 1);
         x.setMode(1);
-        x.run(22);
-        x.run(7);
+        x.run(20);
+        x.run(9);
         x.run(5);
         x.run(3);
         x.run(3);
+        return x;
+    }
+
+    /** As it was within the busy run, but without a saved state. */
+    private static HallCommutator undone() {
+        HallCommutator x = busy();
+        for (int i = 0; i < 4; i++) {
+            x.undo();
+        }
         return x;
     }
 
