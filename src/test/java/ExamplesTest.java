@@ -1,4 +1,4 @@
-/** The five examples of the document, call by call. */
+/** The five examples of the document, call by call, and the one of README.md. */
 public final class ExamplesTest {
     private static final Check CHECK = new Check();
 
@@ -8,6 +8,7 @@ public final class ExamplesTest {
         glitchAndIllegalCode();
         stall();
         exceptions();
+        readme();
         CHECK.end();
     }
 
@@ -61,5 +62,16 @@ public final class ExamplesTest {
         CHECK.illegalState(x, "clearFault()", () -> x.clearFault());
         CHECK.outOfBounds(x, "interval(0)", () -> x.interval(0));
         CHECK.illegalState(x, "undo()", () -> x.undo());
+    }
+
+    private static void readme() {
+        HallCommutator x = new HallCommutator();
+        CHECK.due("spin(1, 10, 12)", x.spin(1, 10, 12), 12);
+        CHECK.due("setMode(1)", x.setMode(1), 0);
+        CHECK.due("run(100)", x.run(100), 100);
+        CHECK.due("position()", x.position(), 9);
+        CHECK.due("speed()", x.speed(), 16666.666666666668);
+        CHECK.due("leg(0)", x.leg(0), -1);
+        CHECK.due("undo()", x.undo(), 2);
     }
 }
